@@ -662,9 +662,11 @@ public final class ThornCores {
         private boolean lowerNumbers() {
             boolean changed = false;
             for (int plant = 0; plant < thicket.count; plant++) {
-                int number = thicket.hasProp(plant) ? MAX_K : greatestHeld(plant);
-                changed = changed || number != numbers.at(plant);
-                numbers.put(plant, number);
+                if (!thicket.hasProp(plant)) {
+                    int lowered = greatestHeld(plant);
+                    changed = changed || lowered != numbers.at(plant);
+                    numbers.put(plant, lowered);
+                }
             }
             return changed;
         }

@@ -96,6 +96,10 @@ public final class ChangesTest {
         Check.due("5 thorns", 1, x::thornCount);
         Check.due("5 neighbors", 8, () -> x.neighbors(1));
         Check.due("5 other's neighbors", 0, () -> x.neighbors(2));
+        Check.due("5 one modification", 6, x::historySize);
+        x.undo();
+        Check.due("5 undone", 9, () -> x.neighbors(1));
+        x.cut(0, 1);
         Check.due("5 not bound", Thickets.BAD_STATE, () -> x.cut(1, 2));
         Check.due("5 same", Thickets.BAD_ARGUMENT, () -> x.cut(2, 2));
         Check.due("5 no first", Thickets.NO_PLANT, () -> x.cut(4, 1));
@@ -130,6 +134,14 @@ public final class ChangesTest {
         Check.due("7 beginning only", Thickets.BAD_ARGUMENT, () -> Thickets.write(x, "+,a-").change());
         Check.due("7 nothing made", 2, x::plantCount);
         Check.due("7 history", 1, x::historySize);
+
+        ThornCores few = Thickets.of(2, "");
+        Thickets.write(few, "a-c,c-a,d-c,a/c,c/a,c/d,!c,!p");
+        Check.due("7 one plant is missing", 0, few::change);
+        Check.due("7 no thorns to nothing", 0, few::thornCount);
+        few.plant();
+        Check.due("7 nothing waits for the plant", 0, () -> few.neighbors(2));
+        Check.due("7 no prop waits for it", false, () -> few.isPropped(2));
 
         ThornCores full = Thickets.of(15, "");
         Thickets.write(full, "+,+,!p,a-p,+");

@@ -16,6 +16,10 @@ public final class ColorsTest {
             Check.due("32 plant " + plant, due[plant], () -> x.colorOf(asked));
         }
         Check.due("33 three", 3, x::colors);
+        Check.due("33 asked first", 2, () -> Thickets.of(2, "ab").colors());
+        x.cut(0, 2);
+        Check.due("33 two after a cut", 2, x::colors);
+        x.bind(0, 2);
         Thickets.prop(x, 0);
         int[] propped = {0, 2, 1, 0, 0};
         for (int plant = 0; plant < propped.length; plant++) {

@@ -68,6 +68,8 @@ public final class CoresTest {
         ThornCores full = Thickets.complete(16);
         Check.due("22 all", 15, () -> full.coreOf(7));
         Check.due("23 all", 15, () -> full.coreByRounds(7));
+        ThornCores chain = Thickets.of(6, "ec ca ab bd df");
+        Check.due("23 sinks in several rounds", 1, () -> chain.coreByRounds(0));
         ThornCores star = Thickets.of(5, "ab ac ad ae");
         Check.due("22 star", 1, () -> star.coreOf(0));
         Check.due("23 star", 1, () -> star.coreByRounds(0));

@@ -36,6 +36,8 @@ public final class TrussesTest {
         number(x, 0, 2, 2);
         x.cut(2, 3);
         number(x, 0, 2, 1);
+        // The first round leaves 2 to ab.
+        number(Thickets.of(6, "ab ac ae af bd be bf ce cf de df"), 0, 1, 1);
         ThornCores full = Thickets.complete(16);
         number(full, 0, 15, 14);
         number(Thickets.of(2, "ab"), 0, 1, 0);
