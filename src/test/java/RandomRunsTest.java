@@ -17,6 +17,7 @@ public final class RandomRunsTest {
     private final Model model = new Model();
     private final StringBuilder told = new StringBuilder();
     private int plants = 0;
+    private int calls = 0;
 
     private RandomRunsTest(long seed) {
         this.seed = seed;
@@ -36,22 +37,19 @@ public final class RandomRunsTest {
 
     /** Kind 0 draws all calls alike; the others first make a thicket, the denser the greater the kind. */
     private void run(int kind) {
-        int calls = 0;
         int wanted = kind == 0 ? 0 : 4 + draw(13);
         while (plants < wanted) {
             call("plant", 0, 0);
             plants++;
-            calls++;
         }
         for (int one = 0; one < plants; one++) {
             for (int two = one + 1; two < plants; two++) {
                 if (draw(5) < kind + 1) {
                     call("bind", two, one);
-                    calls++;
                 }
             }
         }
-        for (; calls < CALLS && Check.wrong() == 0; calls++) {
+        while (calls < CALLS && Check.wrong() == 0) {
             step(kind);
         }
     }
@@ -125,6 +123,10 @@ public final class RandomRunsTest {
     }
 
     private void call(String name, int one, int two) {
+        if (calls == CALLS) {
+            return;
+        }
+        calls++;
         told.append(name).append('(').append(one).append(',').append(two).append(") ");
         String want = Check.answer(() -> model.call(name, one, two));
         String got = Check.answer(() -> ask(name, one, two));

@@ -49,16 +49,16 @@ final class Thickets {
         return write(new ThornCores(), text);
     }
 
-    /** Everything that can be asked without a change. */
+    /** The state, the history's size and the text, with few calls, as an object is used for at most 512. */
     static String look(ThornCores x) {
         StringBuilder seen = new StringBuilder();
         seen.append(x.plantCount()).append(' ').append(x.thornCount()).append(' ').append(x.historySize());
         seen.append(' ').append(x.isValid()).append(' ').append(Check.answer(x::firstError));
-        seen.append(' ').append(x.triangles()).append(' ').append(x.trianglesBySupport());
-        seen.append(' ').append(x.colors()).append(' ').append(x.greatestCore()).append(' ').append(x.averageNeighbors());
-        for (int plant = 0; plant < x.plantCount(); plant++) {
-            seen.append(" | ").append(x.neighbors(plant)).append(' ').append(x.isPropped(plant));
-            seen.append(' ').append(x.coreOf(plant)).append(' ').append(x.placeOf(plant)).append(' ').append(x.colorOf(plant));
+        // In a thicket that is not dense the propped plants alone are in the 15-core.
+        seen.append(" props ").append(x.core(15)).append(" neighbors");
+        int plants = x.plantCount();
+        for (int plant = 0; plant < plants; plant++) {
+            seen.append(' ').append(x.neighbors(plant));
         }
         return seen.toString();
     }
