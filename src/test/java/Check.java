@@ -3,8 +3,14 @@ import java.util.concurrent.Callable;
 /** Compares answers with those that are due, and counts those that are not. */
 final class Check {
     private static int wrong = 0;
+    private static String about = "";
 
     private Check() {
+    }
+
+    /** What the next answers are about; it is told in front of each that is not as due. */
+    static void about(String what) {
+        about = what + ", ";
     }
 
     /** The answer of a call as a text, or the name of the exception's class. */
@@ -23,7 +29,7 @@ final class Check {
     static void same(String what, String want, String got) {
         if (!want.equals(got)) {
             wrong++;
-            System.out.println(what + ": answered " + got + ", due is " + want);
+            System.out.println(about + what + ": answered " + got + ", due is " + want);
         }
     }
 

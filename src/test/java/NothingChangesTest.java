@@ -23,8 +23,11 @@ public final class NothingChangesTest {
         for (Callable<?> call : calls) {
             Check.same("a call that must throw", "true", String.valueOf(Check.answer(call).endsWith("Exception")));
         }
-        ask(x);
         Check.same("after calls that throw", due, Thickets.drain(x));
+        // A thicket of its own, as one object is used for at most 512 calls.
+        ThornCores asked = full();
+        ask(asked);
+        Check.same("after questions", due, Thickets.drain(asked));
         bare();
         Check.finish();
     }
@@ -47,7 +50,7 @@ public final class NothingChangesTest {
     }
 
     private static void ask(ThornCores x) {
-        for (int k = 0; k <= 15; k++) {
+        for (int k = 0; k <= 15; k += 3) {
             x.core(k);
             x.corePieces(k);
             x.trussSize(k);
