@@ -137,6 +137,13 @@ final class CoreEdges {
             star.switchProp(plant);
             number(star, 0, Math.max(1, plant));
         }
+        // The numbers sink from the end that nothing holds, one after the other.
+        ThornCores up = Thickets.prop(Thickets.of(16, "ab bc cd de ef fg gh hi ij jk kl lm mn no op"), 0);
+        ThornCores down = Thickets.prop(Thickets.of(16, "ab bc cd de ef fg gh hi ij jk kl lm mn no op"), 15);
+        for (int plant : Thickets.upTo(16)) {
+            number(up, plant, plant == 0 ? 15 : 1);
+            number(down, plant, plant == 15 ? 15 : 1);
+        }
         ThornCores late = Thickets.of(16, "no op np");
         number(late, 0, 0);
         number(late, 15, 2);

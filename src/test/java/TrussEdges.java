@@ -9,6 +9,7 @@ final class TrussEdges {
         againAndAgain();
         greatestK();
         byRounds();
+        manyRounds();
         afterOthers();
         sizes();
         propsDoNotMatter();
@@ -123,6 +124,36 @@ final class TrussEdges {
         Document.quote(30, "until nothing changes");
         number(Thickets.of(6, "ab ac ae af bd be bf ce cf de df"), 0, 1, 1);
         number(strip(), 7, 8, 1);
+    }
+
+    /** Thickets that fall apart little by little: some thorns become weak only after ten rounds and more. */
+    private static void manyRounds() {
+        Document.quote("TRUSSES", "removed again and again");
+        String loose = "ab ag ai aj bj ce cl cp di dj dm eg ej el fi fl fn fo hk hm hn io km kp ln mo";
+        String held = "ae af am ap bd bg bh bl bo bp cg ck cn dg dh dl do dp ef em ep fm fp gk gn go hl hp ij ik in jk jn kn";
+        ThornCores two = Thickets.of(16, loose + " " + held);
+        Check.due("more in 2", 34, () -> two.trussSize(2));
+        numbers(two, loose, 1);
+        numbers(two, held, 2);
+        String weak = "ac ah al bd be bf bg bk bl cd ce cf cg ch cl cm df dh dk el em fg fi fj fl fm gh gi gj gk gl hi hl hm "
+                + "ik im jk jm kl km lm";
+        String strong = "ad ae ai aj de di dj ei ej ij";
+        ThornCores three = Thickets.of(13, weak + " " + strong);
+        Check.due("all in 2", 51, () -> three.trussSize(2));
+        Check.due("few in 3", 10, () -> three.trussSize(3));
+        numbers(three, weak, 2);
+        numbers(three, strong, 3);
+    }
+
+    private static void numbers(ThornCores x, String thorns, int due) {
+        for (String thorn : thorns.split(" ")) {
+            int one = thorn.charAt(0) - 'a';
+            int two = thorn.charAt(1) - 'a';
+            Document.quote(29, "found by removing thorns again and again");
+            Check.due(thorn, due, () -> x.trussOf(one, two));
+            Document.quote(30, "until nothing changes");
+            Check.due(thorn, due, () -> x.trussByRounds(two, one));
+        }
     }
 
     /** What an earlier question has found must not show in a later one. */
