@@ -561,20 +561,16 @@ public final class ThornCores {
 
         int makeChanges(Thicket thicket) {
             int made = 0;
-            for (int start = 0; start < length; start += changeLength(start) + 1) {
-                if (makeChange(thicket, start)) {
+            for (int place = 0; place < length; place++) {
+                if (beginsChange(place) && makeChange(thicket, place)) {
                     made++;
                 }
             }
             return made;
         }
 
-        private int changeLength(int start) {
-            int first = characters.at(start);
-            if (first == '+') {
-                return 1;
-            }
-            return first == '!' ? 2 : 3;
+        private boolean beginsChange(int place) {
+            return place == 0 || characters.at(place - 1) == ',';
         }
 
         private boolean makeChange(Thicket thicket, int start) {

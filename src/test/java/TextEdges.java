@@ -54,6 +54,10 @@ final class TextEdges {
         ThornCores shorter = Thickets.written("+,+,+");
         Thickets.write(shorter, "+");
         Check.due("nothing behind the end", 1, shorter::change);
+        ThornCores cleared = Thickets.write(Thickets.of(2, ""), "?a-b");
+        Thickets.write(cleared, "!a");
+        Check.due("one change, whatever stood behind it", 1, cleared::change);
+        Check.due("and no thorn of the text before", 0, cleared::thornCount);
     }
 
     private static void anyCharacter() {
